@@ -290,6 +290,10 @@ public final class ThingsTest {
         acts(man, 0, 1, 0, 72, 11, 10);
         man.bring(1, 0);
         acts(man, 1, 2, MIN, MIN, 12);
+        acts(man, 3, 2, 0, 3, 50, 12);
+        acts(man, 3, 2, -1, 0, 50, 12);
+        man.bring(2, 3);
+        acts(man, 2, 3, 10, 132, 31, 13, 11, 30, 10, 12);
         acts(man, 3, 2, MAX, (MIN + 3) / 4 * 3, 50, 12);
         for (int goer = 0; goer < 6; goer++) {
             man.bring(goer, goer);

@@ -85,6 +85,13 @@ public final class TriedTest {
         DUE.is(-3, man.comes(0), "comes(0) from 13, which goes back");
         man.bring(0, 12);
         DUE.is(0, man.comes(0), "comes(0) through");
+        LightMan later = with(0, 14, 0);
+        later.roster(4, 0, 9);
+        DUE.is(12, later.comes(0), "comes(0) through a fog that does nothing");
+        later.roster(4, 0, 2);
+        later.roster(2, 0, 9);
+        DUE.is(-3, later.comes(0), "comes(0) through a fog");
+        DUE.is(3, later.back(0), "back(0) in a fog");
         DUE.is(60, driverWithDread(57).comes(0), "comes(0), just by then");
         DUE.is(-3, driverWithDread(58).comes(0), "comes(0), just not by then");
         for (int goer : new int[] {-1, 1, MIN, MAX}) {
@@ -170,6 +177,9 @@ public final class TriedTest {
         DUE.is(2, two.armsFor(0, 1), "armsFor(0, 1)");
         DUE.is(4, two.rosterOf(0, 1), "rosterOf(0, 1)");
         DUE.is(4, man.armsFor(2, 40), "armsFor(2, 40)");
+        LightMan fog = with(0, 11, 4);
+        fog.roster(0, 0, 9);
+        DUE.is(9, fog.armsFor(0, 8), "armsFor(0, 8) in a fog");
         for (int[] w : new int[][] {{-1, 1}, {6, 1}, {0, 0}, {0, 41}, {MIN, 1}, {0, MAX}}) {
             DUE.is(-1, man.armsFor(w[0], w[1]), "armsFor(" + w[0] + ", " + w[1] + ")");
         }
@@ -188,6 +198,12 @@ public final class TriedTest {
         man.bring(1, 12);
         DUE.is(9, man.fogFor(2, 1, 0), "fogFor(2, 1, 0) through");
         DUE.is(2, man.rosterOf(2, 0), "rosterOf(2, 0)");
+        man.trust(0, 11);
+        DUE.is(0, man.fogFor(0, 0, 12), "fogFor(0, 0, 12) from 11");
+        man.set(1, 99);
+        DUE.is(-3, man.fogFor(0, 0, 12), "fogFor(0, 0, 12) with DREAD 99");
+        man.set(1, 0);
+        DUE.is(9, man.fogFor(0, 0, 12), "fogFor(0, 0, 12) without DREAD");
         int[][] wrong = {{-1, 0, 1}, {6, 0, 1}, {0, -1, 1}, {0, 2, 1}, {0, 0, -1}, {0, 0, 41}, {MAX, MIN, MAX}};
         for (int[] w : wrong) {
             DUE.is(-1, man.fogFor(w[0], w[1], w[2]), "fogFor(" + w[0] + ", " + w[1] + ", " + w[2] + ")");
@@ -265,6 +281,11 @@ public final class TriedTest {
         DUE.is(4, inFogFromStep2(17).liftedFor(7, 1), "liftedFor(7, 1) from 17");
         DUE.is(5, inFogFromStep2(16).liftedFor(7, 1), "liftedFor(7, 1) from 16");
         DUE.is(-3, inFogFromStep2(16).liftedFor(6, 1), "liftedFor(6, 1) from 16");
+        // FAITH 3 more in each of six STEPS, till then back from 10 to 5: no rest can be spared.
+        LightMan all = with(0, 0, 10);
+        rosterAll(all, 9, 4);
+        all.set(1, 18);
+        DUE.is(63, all.liftedFor(12, 1), "liftedFor(12, 1) by all rests");
         // What suits the one makes the other sit.
         LightMan two = with(1, 84, 9);
         two.goer(0, 11, 11);
@@ -304,6 +325,12 @@ public final class TriedTest {
         fit(man, 75, 7, 6, -1, 8);
         fit(man, 3, 85, -1, 6);
         DUE.is(50, man.of(0, 1), "of(0, 1)");
+        // Unseen in the third STEP: only the second has a bound from above then, 84.
+        man.roster(2, 0, 9);
+        man.roster(2, 1, 0);
+        fit(man, 78, 7, 6, -1, 8);
+        man.set(1, 99);
+        fit(man, 0, -3, 6, -1, 8);
         man.bring(0, 12);
         fit(man, 100, 0, 12, 12);
         fit(man, 0, -3, 12, 11);

@@ -98,6 +98,7 @@ public final class TunnelTest {
         tells(0, "hum3;dread99;love0;lamp 099;fog0is9;arms 5 is 000;");
         promise3Faults();
         promise3Told();
+        promise3Shorter();
         promise3Stays();
     }
 
@@ -108,6 +109,8 @@ public final class TunnelTest {
         fails(0, "at 3;");
         fails(2, "  goers at 3;");
         fails(0, "goerat3;");
+        fails(0, "goerz at 3;");
+        fails(0, "aoer at 3;");
         fails(0, "Goer at 3;");
         fails(0, "gOer at 3;");
         fails(0, "" + (char) 225);
@@ -156,6 +159,17 @@ public final class TunnelTest {
                 DUE.is(goers[i][what], man.of(i, what), "of(" + i + ", " + what + ")");
             }
         }
+        Due.tell(man, "goer at 1;driver at 2;mourner at 3;stoker at 4;widow at 5;child at 6;");
+        for (int kind = 0; kind < 6; kind++) {
+            DUE.is(kind, man.of(kind, 0), "of(" + kind + ", 0)");
+            DUE.is(kind + 1, man.of(kind, 2), "of(" + kind + ", 2)");
+        }
+        man.steps(2);
+        man.passed(1);
+        Due.tell(man, "goer at 5;");
+        DUE.is(0, man.of(0, 3), "of(0, 3) of a new one");
+        man.goer(0, 50, 5);
+        DUE.is(0, man.of(1, 3), "of(1, 3) of a new one");
         DUE.is(0, Due.tell(man, "fog 0 is 9; fog 0 is 8; arms 5 is 0; hum 9; dread 98; love 97; lamp 96;"),
             "tunnel() of laws");
         int[] laws = {9, 98, 97, 96};
@@ -168,18 +182,28 @@ public final class TunnelTest {
         DUE.is(4, man.rosterOf(0, 1), "rosterOf(0, 1)");
     }
 
+    /** What an earlier text left behind the end of a shorter one doesn't count. */
+    private static void promise3Shorter() {
+        LightMan man = new LightMan();
+        DUE.is(-100, Due.tell(man, "9".repeat(200)), "tunnel() of digits");
+        DUE.is(-105, Due.tell(man, "hum 9"), "tunnel() of 'hum 9'");
+        DUE.is(-100, Due.tell(man, "x".repeat(200)), "tunnel() of letters");
+        DUE.is(-104, Due.tell(man, "goer"), "tunnel() of 'goer'");
+        DUE.is(-300, Due.tell(man, "hum 9;".repeat(32) + "love   9"), "tunnel() of 200 bytes that end too soon");
+    }
+
     private static void promise3Stays() {
         LightMan man = with(1, 50, 4);
         man.set(1, 77);
         man.roster(2, 0, 8);
         man.keep();
-        man.seed(1234);
         man.steps(5);
         man.prove(0, 4);
         man.sheet(2, 0, 3);
         man.shelf(0, 0, 0);
         man.shelf(1, 1, 2);
         man.act(0, 1, 5);
+        man.seed(1234);
         DUE.is(0, man.tunnel(), "tunnel() of nothing");
         isAtFirst(man);
         DUE.is(0, man.many(4), "many(4)");
@@ -387,6 +411,22 @@ public final class TunnelTest {
         goes(5, 50, 6, 56, 8);
         promise14Laws();
         promise14Many();
+        promise14Eight();
+    }
+
+    private static void promise14Eight() {
+        LightMan man = new LightMan();
+        for (int i = 0; i < 8; i++) {
+            man.goer(0, 50, i + 4);
+        }
+        for (int n = 1; n <= 8; n++) {
+            DUE.is(n, man.steps(1), "steps(1) of eight");
+            DUE.is(256 - (256 >> n), man.state(1), "state(1)");
+        }
+        DUE.is(8, man.many(3), "many(3)");
+        DUE.is(8, man.many(1), "many(1)");
+        DUE.is(0, man.state(2), "state(2)");
+        DUE.is(96, man.state(4), "state(4)");
     }
 
     private static void promise14Laws() {
@@ -490,6 +530,9 @@ public final class TunnelTest {
         man.goer(0, 99, 5);
         man.set(3, 99);
         DUE.is(0, man.luck(30), "luck(30) of one that sits");
+        // From 50 or 49 alike it goes on.
+        man.trust(0, 50);
+        DUE.is(0, man.luck(30), "luck(30) of one that goes on");
         // FAITH 95 sits; 4 and 3 are 7, which is not below DREAD now: it goes on with each lamp.
         man.trust(0, 95);
         man.set(1, 5);
@@ -503,6 +546,8 @@ public final class TunnelTest {
         }
         man.seed(77);
         DUE.is(lamps, man.luck(30), "luck(30) by lamps");
+        int z1 = (77 * 1103515245 + 12345) * 1103515245 + 12345;
+        DUE.is((z1 >>> 16) % 100 < 60 ? 1 : 0, man.luck(1), "luck(1)");
         DUE.holds(lamps > 0 && lamps < 30, "some lamps, not all");
         DUE.is(95, man.of(0, 1), "of(0, 1)");
         DUE.is(5, man.of(0, 2), "of(0, 2)");
