@@ -27,6 +27,10 @@ final class Due {
         is(1, fact ? 1 : 0, what);
     }
 
+    int asked() {
+        return right + wrong;
+    }
+
     /** Feeds a text, whose signs are 0 to 255, and makes it the tunnel. */
     static int tell(LightMan man, String text) {
         feedAll(man, text);

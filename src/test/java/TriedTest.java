@@ -3,27 +3,6 @@ public final class TriedTest {
     private static final int MIN = Integer.MIN_VALUE, MAX = Integer.MAX_VALUE;
     private static final Due DUE = new Due("TriedTest");
 
-    private static LightMan with(int kind, int faith, int place) {
-        LightMan man = new LightMan();
-        man.goer(kind, faith, place);
-        return man;
-    }
-
-    private static void rosterAll(LightMan man, int fog, int arms) {
-        for (int rest = 0; rest < 6; rest++) {
-            man.roster(rest, 0, fog);
-            man.roster(rest, 1, arms);
-        }
-    }
-
-    /** A driver in the fog whose FAITH is 1 more in each STEP stays AT 0 till it is DREAD: 3 STEPS more then. */
-    private static LightMan driverWithDread(int dread) {
-        LightMan man = with(1, 0, 0);
-        rosterAll(man, 9, 0);
-        man.set(1, dread);
-        return man;
-    }
-
     /** Nothing that is tried may change what is. */
     private static void isUnchanged(LightMan man, int[] before) {
         int[] after = seen(man);
@@ -50,20 +29,20 @@ public final class TriedTest {
 
     private static void promise19() {
         DUE.about("promise 19");
-        LightMan man = with(0, 50, 0);
+        LightMan man = Make.with(0, 50, 0);
         for (int n = 0; n <= 60; n++) {
             DUE.is(Math.min(12, n), man.where(0, n), "where(0, " + n + ")");
         }
         for (int[] w : new int[][] {{-1, 0}, {1, 0}, {0, -1}, {0, 61}, {MIN, MIN}, {MAX, MAX}}) {
             DUE.is(-1, man.where(w[0], w[1]), "where(" + w[0] + ", " + w[1] + ")");
         }
-        LightMan driver = driverWithDread(57);
+        LightMan driver = Make.driverWithDread(57);
         DUE.is(0, driver.where(0, 56), "where(0, 56)");
         DUE.is(3, driver.where(0, 57), "where(0, 57)");
         DUE.is(9, driver.where(0, 59), "where(0, 59)");
         DUE.is(12, driver.where(0, 60), "where(0, 60)");
         // From an odd STEP a widow waits first.
-        LightMan widow = with(4, 30, 3);
+        LightMan widow = Make.with(4, 30, 3);
         DUE.is(4, widow.where(0, 2), "where(0, 2) from an even STEP");
         widow.steps(1);
         widow.bring(0, 3);
@@ -73,7 +52,7 @@ public final class TriedTest {
 
     private static void promise20() {
         DUE.about("promise 20");
-        LightMan man = with(0, 50, 0);
+        LightMan man = Make.with(0, 50, 0);
         DUE.is(12, man.comes(0), "comes(0)");
         man.trust(0, 64);
         DUE.is(12, man.comes(0), "comes(0) from 64");
@@ -85,15 +64,15 @@ public final class TriedTest {
         DUE.is(-3, man.comes(0), "comes(0) from 13, which goes back");
         man.bring(0, 12);
         DUE.is(0, man.comes(0), "comes(0) through");
-        LightMan later = with(0, 14, 0);
+        LightMan later = Make.with(0, 14, 0);
         later.roster(4, 0, 9);
         DUE.is(12, later.comes(0), "comes(0) through a fog that does nothing");
         later.roster(4, 0, 2);
         later.roster(2, 0, 9);
         DUE.is(-3, later.comes(0), "comes(0) through a fog");
         DUE.is(3, later.back(0), "back(0) in a fog");
-        DUE.is(60, driverWithDread(57).comes(0), "comes(0), just by then");
-        DUE.is(-3, driverWithDread(58).comes(0), "comes(0), just not by then");
+        DUE.is(60, Make.driverWithDread(57).comes(0), "comes(0), just by then");
+        DUE.is(-3, Make.driverWithDread(58).comes(0), "comes(0), just not by then");
         for (int goer : new int[] {-1, 1, MIN, MAX}) {
             DUE.is(-1, man.comes(goer), "comes(" + goer + ")");
         }
@@ -101,7 +80,7 @@ public final class TriedTest {
 
     private static void promise21() {
         DUE.about("promise 21");
-        LightMan man = with(0, 65, 0);
+        LightMan man = Make.with(0, 65, 0);
         DUE.is(12, man.sits(0), "sits(0)");
         man.trust(0, 64);
         DUE.is(-3, man.sits(0), "sits(0) of one that comes");
@@ -111,7 +90,7 @@ public final class TriedTest {
         man.bring(0, 12);
         DUE.is(-3, man.sits(0), "sits(0) through");
         for (int dread = 60; dread < 62; dread++) {
-            LightMan driver = driverWithDread(dread);
+            LightMan driver = Make.driverWithDread(dread);
             driver.set(2, 59);
             DUE.is(dread == 60 ? 60 : -3, driver.sits(0), "sits(0) with DREAD " + dread);
         }
@@ -122,7 +101,7 @@ public final class TriedTest {
 
     private static void promise22() {
         DUE.about("promise 22");
-        LightMan man = with(0, 11, 0);
+        LightMan man = Make.with(0, 11, 0);
         DUE.is(1, man.back(0), "back(0), which stays AT 0");
         man.trust(0, 13);
         DUE.is(2, man.back(0), "back(0)");
@@ -132,8 +111,8 @@ public final class TriedTest {
         man.bring(0, 12);
         DUE.is(-3, man.back(0), "back(0) through");
         // A stoker that sits in the fog with 1 less FAITH by each STEP.
-        LightMan stoker = with(3, 99, 0);
-        rosterAll(stoker, 2, 0);
+        LightMan stoker = Make.with(3, 99, 0);
+        Make.rosterAll(stoker, 2, 0);
         stoker.set(2, 0);
         stoker.set(1, 40);
         DUE.is(60, stoker.back(0), "back(0), just by then");
@@ -146,7 +125,7 @@ public final class TriedTest {
 
     private static void promise23() {
         DUE.about("promise 23");
-        LightMan man = with(0, 50, 11);
+        LightMan man = Make.with(0, 50, 11);
         man.goer(0, 50, 10);
         man.goer(1, 50, 0);
         man.goer(0, 99, 4);
@@ -157,8 +136,8 @@ public final class TriedTest {
         DUE.is(3, man.passed(60), "passed(60)");
         man.bring(3, 12);
         DUE.is(1, man.passed(0), "passed(0)");
-        DUE.is(0, driverWithDread(57).passed(59), "passed(59)");
-        DUE.is(1, driverWithDread(57).passed(60), "passed(60)");
+        DUE.is(0, Make.driverWithDread(57).passed(59), "passed(59)");
+        DUE.is(1, Make.driverWithDread(57).passed(60), "passed(60)");
         for (int n : new int[] {-1, 61, MIN, MAX}) {
             DUE.is(-1, man.passed(n), "passed(" + n + ")");
         }
@@ -166,18 +145,18 @@ public final class TriedTest {
 
     private static void promise24() {
         DUE.about("promise 24");
-        LightMan man = with(0, 14, 0);
+        LightMan man = Make.with(0, 14, 0);
         DUE.is(4, man.armsFor(2, 12), "armsFor(2, 12)");
         DUE.is(0, man.armsFor(2, 11), "armsFor(2, 11), nobody is through by");
         DUE.is(0, man.armsFor(0, 12), "armsFor(0, 12)");
         // A driver that sits with ARMS above 3, a goer that goes back with ARMS below 2.
-        LightMan two = with(1, 84, 9);
+        LightMan two = Make.with(1, 84, 9);
         two.goer(0, 11, 11);
         two.roster(0, 0, 9);
         DUE.is(2, two.armsFor(0, 1), "armsFor(0, 1)");
         DUE.is(4, two.rosterOf(0, 1), "rosterOf(0, 1)");
         DUE.is(4, man.armsFor(2, 40), "armsFor(2, 40)");
-        LightMan fog = with(0, 11, 4);
+        LightMan fog = Make.with(0, 11, 4);
         fog.roster(0, 0, 9);
         DUE.is(9, fog.armsFor(0, 8), "armsFor(0, 8) in a fog");
         for (int[] w : new int[][] {{-1, 1}, {6, 1}, {0, 0}, {0, 41}, {MIN, 1}, {0, MAX}}) {
@@ -187,7 +166,7 @@ public final class TriedTest {
 
     private static void promise25() {
         DUE.about("promise 25");
-        LightMan man = with(0, 14, 0);
+        LightMan man = Make.with(0, 14, 0);
         man.goer(0, 50, 0);
         DUE.is(2, man.fogFor(2, 0, 12), "fogFor(2, 0, 12)");
         DUE.is(2, man.fogFor(2, 0, 40), "fogFor(2, 0, 40)");
@@ -212,7 +191,7 @@ public final class TriedTest {
 
     private static void promise26() {
         DUE.about("promise 26");
-        LightMan man = with(0, 50, 0);
+        LightMan man = Make.with(0, 50, 0);
         DUE.is(14, man.faithFor(0, 12), "faithFor(0, 12)");
         DUE.is(14, man.faithFor(0, 40), "faithFor(0, 40)");
         DUE.is(-3, man.faithFor(0, 11), "faithFor(0, 11)");
@@ -221,8 +200,8 @@ public final class TriedTest {
         man.bring(0, 12);
         DUE.is(0, man.faithFor(0, 0), "faithFor(0, 0) through");
         // Unseen by a goer AT 11: FAITH is 2 less, and DREAD 99 is not in reach.
-        LightMan fog = with(0, 5, 11);
-        rosterAll(fog, 9, 0);
+        LightMan fog = Make.with(0, 5, 11);
+        Make.rosterAll(fog, 9, 0);
         fog.set(1, 97);
         fog.set(2, 99);
         DUE.is(99, fog.faithFor(0, 1), "faithFor(0, 1) with DREAD 97");
@@ -235,7 +214,7 @@ public final class TriedTest {
 
     private static void promise27() {
         DUE.about("promise 27");
-        LightMan man = with(2, 50, 0);
+        LightMan man = Make.with(2, 50, 0);
         DUE.is(1, man.kindFor(0), "kindFor(0)");
         DUE.is(2, man.of(0, 0), "of(0, 0)");
         man.bring(0, 11);
@@ -260,13 +239,13 @@ public final class TriedTest {
         LightMan man = new LightMan();
         man.steps(2);
         man.goer(0, faith, 5);
-        rosterAll(man, 9, 4);
+        Make.rosterAll(man, 9, 4);
         return man;
     }
 
     private static void promise28() {
         DUE.about("promise 28");
-        LightMan man = with(0, 14, 0);
+        LightMan man = Make.with(0, 14, 0);
         DUE.is(3, man.liftedFor(12, 1), "liftedFor(12, 1) from 14");
         man.trust(0, 21);
         DUE.is(1, man.liftedFor(12, 1), "liftedFor(12, 1) from 21");
@@ -282,12 +261,12 @@ public final class TriedTest {
         DUE.is(5, inFogFromStep2(16).liftedFor(7, 1), "liftedFor(7, 1) from 16");
         DUE.is(-3, inFogFromStep2(16).liftedFor(6, 1), "liftedFor(6, 1) from 16");
         // FAITH 3 more in each of six STEPS, till then back from 10 to 5: no rest can be spared.
-        LightMan all = with(0, 0, 10);
-        rosterAll(all, 9, 4);
+        LightMan all = Make.with(0, 0, 10);
+        Make.rosterAll(all, 9, 4);
         all.set(1, 18);
         DUE.is(63, all.liftedFor(12, 1), "liftedFor(12, 1) by all rests");
         // What suits the one makes the other sit.
-        LightMan two = with(1, 84, 9);
+        LightMan two = Make.with(1, 84, 9);
         two.goer(0, 11, 11);
         two.roster(0, 0, 9);
         DUE.is(0, two.liftedFor(1, 1), "liftedFor(1, 1)");
@@ -313,7 +292,7 @@ public final class TriedTest {
     private static void promise29() {
         DUE.about("promise 29");
         // AT 5 he is seen: 0 to 6 go back, 88 to 99 sit, all others go on.
-        LightMan man = with(0, 50, 5);
+        LightMan man = Make.with(0, 50, 5);
         fit(man, 100, 0);
         fit(man, 81, 7, 6);
         fit(man, 7, 0, 4);
@@ -391,7 +370,7 @@ public final class TriedTest {
 
     private static void nothingChanges() {
         DUE.about("promises 19 to 31 change nothing");
-        LightMan man = with(0, 14, 0);
+        LightMan man = Make.with(0, 14, 0);
         man.goer(4, 60, 3);
         man.goer(5, 40, 7);
         man.steps(1);

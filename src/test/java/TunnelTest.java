@@ -3,12 +3,6 @@ public final class TunnelTest {
     private static final int MIN = Integer.MIN_VALUE, MAX = Integer.MAX_VALUE;
     private static final Due DUE = new Due("TunnelTest");
 
-    private static LightMan with(int kind, int faith, int place) {
-        LightMan man = new LightMan();
-        man.goer(kind, faith, place);
-        return man;
-    }
-
     private static void isAtFirst(LightMan man) {
         int[] laws = {3, 10, 90, 20};
         for (int law = 0; law < 4; law++) {
@@ -75,7 +69,7 @@ public final class TunnelTest {
     }
 
     private static void fails(int fault, String text) {
-        LightMan man = with(5, 7, 9);
+        LightMan man = Make.with(5, 7, 9);
         man.set(0, 8);
         man.roster(3, 1, 9);
         man.prove(0, 2);
@@ -193,7 +187,7 @@ public final class TunnelTest {
     }
 
     private static void promise3Stays() {
-        LightMan man = with(1, 50, 4);
+        LightMan man = Make.with(1, 50, 4);
         man.set(1, 77);
         man.roster(2, 0, 8);
         man.keep();
@@ -263,7 +257,7 @@ public final class TunnelTest {
 
     /** Of six steps each has its own rest, and the seventh has the first one's again. */
     private static void promise7Holds() {
-        LightMan man = with(0, 50, 0);
+        LightMan man = Make.with(0, 50, 0);
         man.set(1, 0);
         for (int rest = 0; rest < 6; rest++) {
             man.roster(rest, 0, 9 - rest);
@@ -296,7 +290,7 @@ public final class TunnelTest {
 
     private static void promise9() {
         DUE.about("promise 9");
-        LightMan man = with(0, 50, 1);
+        LightMan man = Make.with(0, 50, 1);
         int[] want = {0, 50, 1, 0, 0};
         for (int what = 0; what < 5; what++) {
             DUE.is(want[what], man.of(0, what), "of(0, " + what + ")");
@@ -324,7 +318,7 @@ public final class TunnelTest {
     private static void promise10() {
         DUE.about("promise 10");
         // FOG 7, ARMS 5, HUM 4, an even step.
-        LightMan man = with(0, 50, 6);
+        LightMan man = Make.with(0, 50, 6);
         man.set(0, 4);
         man.roster(0, 0, 7);
         man.roster(0, 1, 5);
@@ -357,7 +351,7 @@ public final class TunnelTest {
 
     private static void promises11To13() {
         DUE.about("promises 11, 12, 13");
-        LightMan man = with(2, 40, 3);
+        LightMan man = Make.with(2, 40, 3);
         man.goer(1, 41, 4);
         DUE.is(2, man.mind(0, 5), "mind(0, 5)");
         DUE.is(5, man.mind(0, 5), "mind(0, 5) again");
@@ -384,7 +378,7 @@ public final class TunnelTest {
     }
 
     private static void goes(int kind, int faith, int place, int faithThen, int placeThen) {
-        LightMan man = with(kind, faith, place);
+        LightMan man = Make.with(kind, faith, place);
         man.steps(1);
         DUE.is(faithThen, man.of(0, 1), "FAITH of kind " + kind + " from " + faith + " at " + place);
         DUE.is(placeThen, man.of(0, 2), "PLACE of kind " + kind + " from " + faith + " at " + place);
@@ -431,13 +425,13 @@ public final class TunnelTest {
 
     private static void promise14Laws() {
         // DREAD stands before LOVE: where both hold it goes back.
-        LightMan man = with(0, 50, 5);
+        LightMan man = Make.with(0, 50, 5);
         man.set(1, 99);
         man.set(2, 0);
         man.steps(1);
         DUE.is(4, man.of(0, 2), "of(0, 2), above LOVE and below DREAD");
         // A driver that doesn't see him gains by it, though not above 99.
-        LightMan driver = with(1, 99, 0);
+        LightMan driver = Make.with(1, 99, 0);
         driver.set(2, 99);
         driver.roster(0, 0, 9);
         driver.roster(0, 1, 0);
@@ -511,7 +505,7 @@ public final class TunnelTest {
         int z = 1 * 1103515245 + 12345;
         int left = ((z * 1103515245 + 12345) >>> 16) % 100;
         for (int more = 0; more < 2; more++) {
-            LightMan man = with(0, 20, 3);
+            LightMan man = Make.with(0, 20, 3);
             man.bring(0, 12);
             man.set(3, left + more);
             DUE.is(1, man.step(), "step()");
