@@ -301,6 +301,16 @@ final class RefusalEdges {
         Edges.isSeenAs(Seen.of(Make.richWithoutTape()), man, "tunnel()");
     }
 
+    @Edge(promise = 1, says = "No GOERS")
+    static void allThatAsksForOneWhereThereIsNone() {
+        Edges.refuses(LightMan::new, -1, "of(0, 0)", "does(0, 0)", "mind(0, 0)", "trust(0, 0)", "bring(0, 0)",
+            "where(0, 0)", "comes(0)", "sits(0)", "back(0)", "fogFor(0, 0, 0)", "faithFor(0, 0)", "kindFor(0)",
+            "fits(0, 0, 0)", "prove(0, 1)", "judge(0)", "minds(0, 0, 0, 0)", "shelf(0, 0, 0)");
+        Edges.refuses(LightMan::new, -3, "liftedFor(40, 1)", "again()", "trace(0)");
+        Edges.refuses(LightMan::new, -9, "row(0, 0)", "alterRow(0, 0, 0)");
+        Edges.refuses(LightMan::new, -11, "put(0, 0, 0)", "item(0, 0, 0)", "taken(0, 0)");
+    }
+
     // ---- of several the first named
 
     @Edge(says = "of several the first named")

@@ -638,6 +638,18 @@ final class TunnelEdges {
         }
     }
 
+    @Edge(says = "each tried from how all is now (z alone goes on)")
+    static void noTryGoesOnFromTheOneBefore() {
+        // By a lamp it goes on from 5 to 6 alone, each time; without one it sits, each time.
+        for (int lamp = 0; lamp < 100; lamp += 33) {
+            LightMan man = sitsButForALamp(99);
+            man.set(3, lamp);
+            DUE.is(lampsIn(30, 99, lamp), man.luck(30), "luck(30) with LAMP " + lamp);
+            DUE.is(lampsIn(30, 99, lamp), man.luck(30), "luck(30) with LAMP " + lamp + " once more");
+            DUE.is(99, man.seed(99), "z behind it");
+        }
+    }
+
     @Edge(says = "PLACES of all together are more than behind a STEP (nothing changes, z neither)")
     static void asManyPlacesAreNotMore() {
         // FAITH 50 goes on, as 49 does; FAITH 99 sits, and 0 goes back; 4 goes back, where 95 goes on.
