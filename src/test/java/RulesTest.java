@@ -16,14 +16,22 @@ import java.util.regex.Pattern;
 /** The public face, what LANGUAGE.md rules out (as far as a test can see it), and how little is made. */
 public final class RulesTest {
     private static final Due DUE = new Due("RulesTest");
+    private static final String ROOT = System.getProperty("project.root", ".");
 
-    private static final String FACE = "feed(long,int) tunnel() set(int,int) lawOf(int) roster(int,int,int) "
-        + "rosterOf(int,int) goer(int,int,int) of(int,int) does(int,int) mind(int,int) trust(int,int) bring(int,int) "
-        + "steps(int) seed(int) step() luck(int) state(int) where(int,int) comes(int) sits(int) back(int) passed(int) "
-        + "armsFor(int,int) fogFor(int,int,int) faithFor(int,int) kindFor(int) liftedFor(int,int) fits(int,int,int) "
-        + "odds(int,int,int)L hope(int,int)L prove(int,int) row(int,int) alterRow(int,int,int) judge(int) "
-        + "minds(int,int,int,int) sheet(int,int,int) put(int,int,int) item(int,int,int) shelf(int,int,int) "
-        + "taken(int,int) act(int,int,int) trace(int) many(int) keep() again()";
+    /** Every method of the document's face, as told() tells it. */
+    private static Set<String> methodsDue() throws Exception {
+        String document = Files.readString(Path.of(ROOT, "../shared/DOC.md"));
+        int from = document.indexOf("## The public face");
+        String face = document.substring(from, document.indexOf("## Terms", from));
+        Set<String> due = new TreeSet<>();
+        Matcher method = Pattern.compile("public (int|long) (\\w+)\\(([^)]*)\\);").matcher(face);
+        while (method.find()) {
+            String types = method.group(3).replaceAll(" \\w+(, |$)", ",").replaceAll(",$", "");
+            due.add(method.group(2) + "(" + types + ")" + (method.group(1).equals("long") ? "L" : ""));
+        }
+        DUE.about("the document's face").is(45, due.size(), "how many methods");
+        return due;
+    }
 
     private static String told(Method m) {
         StringBuilder told = new StringBuilder(m.getName()).append('(');
@@ -37,9 +45,8 @@ public final class RulesTest {
         return Modifier.isPrivate(modifiers);
     }
 
-    private static void face() {
+    private static void face(Set<String> due) {
         DUE.about("the public face");
-        Set<String> due = new TreeSet<>(Arrays.asList(FACE.split(" ")));
         Set<String> found = new TreeSet<>();
         for (Method m : LightMan.class.getDeclaredMethods()) {
             if (!isPrivate(m.getModifiers())) {
@@ -68,10 +75,10 @@ public final class RulesTest {
         DUE.holds(Modifier.isFinal(LightMan.class.getModifiers()), "the class is final");
     }
 
-    private static void classes() {
+    private static void classes(Set<String> due) {
         DUE.about("rules 1, 2, 5, 11");
         Set<String> open = new TreeSet<>();
-        for (String method : FACE.split(" ")) {
+        for (String method : due) {
             open.add(method.substring(0, method.indexOf('(')));
         }
         List<Class<?>> all = new ArrayList<>(Arrays.asList(LightMan.class.getDeclaredClasses()));
@@ -105,7 +112,7 @@ public final class RulesTest {
 
     private static void source() throws Exception {
         DUE.about("rules 3 to 6, 11, 13");
-        Path path = Path.of(System.getProperty("project.root", "."), "src/main/java/LightMan.java");
+        Path path = Path.of(ROOT, "src/main/java/LightMan.java");
         String source = Files.readString(path);
         String code = bare(source);
         String[] never = {"throw", "throws", "try", "catch", "finally", "synchronized", "assert", "import", "package",
@@ -190,8 +197,9 @@ public final class RulesTest {
     }
 
     public static void main(String[] args) throws Exception {
-        face();
-        classes();
+        Set<String> due = methodsDue();
+        face(due);
+        classes(due);
         source();
         room();
         DUE.end();
