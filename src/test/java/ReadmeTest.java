@@ -54,7 +54,7 @@ public final class ReadmeTest {
 
     public static void main(String[] args) throws Exception {
         String readme = Files.readString(Path.of(System.getProperty("project.root", "."), "README.md"));
-        DUE.about("examples").is(4, examples(readme), "how many examples");
+        DUE.about("examples").is(5, examples(readme), "how many examples");
         table(readme);
         DUE.end();
     }
